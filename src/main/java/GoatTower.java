@@ -22,6 +22,7 @@ public final class GoatTower {
     private static final int NOWHERE = -1;
     private static final int NEVER = -1;
     private static final int NOT_ENOUGH = -1;
+    private static final int NOT_IN_LINE = -1;
 
     private final Scene now = new Scene();
     private final Scene ahead = new Scene();
@@ -185,7 +186,7 @@ public final class GoatTower {
 
     public int placeInLine(int goat) throws IndexOutOfBoundsException {
         checkGoat(goat);
-        return now.state[goat] == WAITS ? now.countAheadOf(goat) : NOWHERE;
+        return now.state[goat] == WAITS ? now.countAheadOf(goat) : NOT_IN_LINE;
     }
 
     // ---- what would be
@@ -366,7 +367,6 @@ public final class GoatTower {
         void rest(int goat) {
             state[goat] = IDLE;
             gate[goat] = NOWHERE;
-            many[goat] = 0;
             left[goat] = 0;
             waitedForThis[goat] = 0;
         }

@@ -22,6 +22,7 @@ public final class PromisesTest {
         t.promise7PassGatesApart();
         t.promise7PassFirstCome();
         t.promise7PassByHorns();
+        t.promise7PassAllAtOnce();
         t.promise8Minute();
         t.promises9And10Counts();
         t.promises11And12WaitingInside();
@@ -38,13 +39,17 @@ public final class PromisesTest {
         t.promise26PlaceInLine();
         t.promise27MinutesUntilIn();
         t.promise27MinutesUntilInEdges();
+        t.promise27MinutesUntilInOrder();
         t.promise28GivingUpIn();
+        t.promise28GivingUpInAfterOthers();
         t.promise29PermitsWanted();
         t.promise29PermitsWantedEdges();
+        t.promise29PermitsWantedInTheSixtiethMinute();
         t.promise30BestOrder();
         t.promise30BestOrderEdges();
         t.promise31MeanWaited();
         t.promise32Digest();
+        t.promise32DigestOfAFullTower();
         t.wrongNumbersOfGates();
         t.wrongNumbersOfGoats();
         t.checks.end("PromisesTest");
@@ -308,6 +313,18 @@ public final class PromisesTest {
         checks.same("7: the one with longer horns", x.stateOf(3), 2);
     }
 
+    private void promise7PassAllAtOnce() {
+        GoatTower x = tower(9, 0, 1, 1, 1, 1, 1, 1, 1, 1, 1);
+        for (int i = 0; i < 9; i++) {
+            x.ask(i, 0, 1, 1 + i, 1);
+        }
+        checks.same("7: all of nine", x.pass(1), 9);
+        checks.same("7: nobody gave up", x.givenUp(), 0);
+        checks.same("7: none is free", x.freeOf(0), 0);
+        x.pass(1);
+        checks.same("7: the first one left", x.freeOf(0), 1);
+    }
+
     private void promise8Minute() {
         GoatTower x = tower(1, 0, 1);
         x.ask(0, 0, 1, 1, 1);
@@ -378,6 +395,13 @@ public final class PromisesTest {
         checks.same("13: one inside does not starve", x.starving(), 0);
         x.ask(1, 0, 1, 1, 60);
         checks.same("13: one who asks anew does not yet", x.starving(), 0);
+        x.callBack(2);
+        x.callBack(1);
+        x.barge(1, 0, 1, 30);
+        x.ask(0, 0, 1, 1, 60);
+        x.ask(2, 0, 1, 1, 60);
+        x.pass(9);
+        checks.same("13: two of them, goat 0 too", x.starving(), 2);
     }
 
     private void promise14LetIn() {
@@ -643,6 +667,26 @@ public final class PromisesTest {
         checks.same("27: the other gave up", x.givenUp(), 1);
     }
 
+    private void promise27MinutesUntilInOrder() {
+        GoatTower x = tower(1, 0, 5, 5, 5);
+        x.barge(2, 0, 1, 4);
+        x.ask(1, 0, 1, 3, 60);
+        x.ask(0, 0, 1, 3, 60);
+        checks.asks("27: the one who asked first", x, 4, () -> x.minutesUntilIn(1));
+        checks.asks("27: the other one, of the lower number", x, 7, () -> x.minutesUntilIn(0));
+        x.permitsWanted(0);
+        checks.same("27: permits that were thought of do not count", x.minutesUntilIn(0), 7);
+        GoatTower y = tower(1, 1, 5, 7, 5);
+        y.barge(2, 0, 1, 8);
+        y.ask(0, 0, 1, 3, 60);
+        y.pass(6);
+        y.ask(1, 0, 1, 3, 60);
+        checks.asks("27: by horns as they seem after waiting", y, 2, () -> y.minutesUntilIn(0));
+        checks.asks("27: behind it", y, 5, () -> y.minutesUntilIn(1));
+        y.bestOrder(0);
+        checks.same("27: an order that was thought of does not count", y.minutesUntilIn(1), 5);
+    }
+
     private void promise28GivingUpIn() {
         GoatTower x = tower(1, 0, 1, 1, 1, 1);
         x.addGate(1, 1);
@@ -664,6 +708,21 @@ public final class PromisesTest {
         checks.same("28: one gave up", x.givenUp(), 1);
         checks.asks("28: only what is yet to come", x, 0, () -> x.givingUpIn(1));
         checks.asks("28: the other one", x, 1, () -> x.givingUpIn(60));
+    }
+
+    private void promise28GivingUpInAfterOthers() {
+        GoatTower x = tower(1, 0, 1, 1, 1);
+        x.barge(0, 0, 1, 30);
+        x.ask(1, 0, 1, 1, 5);
+        x.ask(2, 0, 1, 1, 40);
+        checks.same("28: one", x.givingUpIn(60), 1);
+        checks.same("28: twice alike", x.givingUpIn(60), 1);
+        x.minutesUntilIn(2);
+        checks.same("28: after minutesUntilIn", x.givingUpIn(60), 1);
+        checks.same("29: one more would do", x.permitsWanted(0), 1);
+        checks.same("28: after permitsWanted", x.givingUpIn(60), 1);
+        x.bestOrder(0);
+        checks.same("28: after bestOrder", x.givingUpIn(5), 1);
     }
 
     private void promise29PermitsWanted() {
@@ -702,6 +761,18 @@ public final class PromisesTest {
         x.pass(1);
         checks.same("29: those who gave up", x.givenUp(), 1);
         checks.asks("29: those of earlier do not count", x, 0, () -> x.permitsWanted(0));
+    }
+
+    private void promise29PermitsWantedInTheSixtiethMinute() {
+        GoatTower x = tower(1, 0, 1, 1, 1, 1);
+        x.barge(0, 0, 1, 30);
+        x.ask(1, 0, 1, 30, 60);
+        x.ask(2, 0, 1, 30, 60);
+        checks.asks("29: the last one comes in the sixtieth minute", x, 0, () -> x.permitsWanted(0));
+        x.ask(3, 0, 1, 30, 60);
+        checks.asks("29: one gives up in the sixtieth minute", x, 1, () -> x.permitsWanted(0));
+        checks.asks("28: not in 59", x, 0, () -> x.givingUpIn(59));
+        checks.asks("28: in 60", x, 1, () -> x.givingUpIn(60));
     }
 
     private void promise30BestOrder() {
@@ -755,6 +826,11 @@ public final class PromisesTest {
         checks.same("31: of four", x.meanWaited(), 1.25);
         x.callBack(2);
         checks.same("31: called back", x.meanWaited(), 1.25);
+        x.callBack(0);
+        x.barge(1, 0, 1, 30);
+        x.ask(0, 0, 1, 1, 60);
+        x.pass(2);
+        checks.same("31: goat 0 too", x.meanWaited(), 1.75);
     }
 
     private void promise32Digest() {
@@ -779,6 +855,28 @@ public final class PromisesTest {
         checks.same("32: later", x.digest(), digestOf(x));
         x.pass(2);
         checks.same("32: twice alike", x.digest(), x.digest());
+    }
+
+    private void promise32DigestOfAFullTower() {
+        GoatTower x = tower(2, 0, 1, 2, 3, 4, 5, 6, 7, 8, 9, 1, 2, 3);
+        for (int i = 1; i < 4; i++) {
+            x.addGate(2 + i, i % 2);
+        }
+        x.barge(0, 0, 1, 30);
+        x.ask(2, 0, 2, 1, 14);
+        x.ask(1, 0, 1, 1, 12);
+        for (int i = 3; i < 12; i++) {
+            x.ask(i, 1 + i % 3, 1 + i % 2, 19 + i, 60 - i);
+        }
+        x.pass(10);
+        checks.same("32: somebody starves", x.starving() > 0 ? 1 : 0, 1);
+        checks.same("32: another order is better", x.bestOrder(0), 1);
+        checks.same("32: of a full tower", x.digest(), digestOf(x));
+        int waited = 0;
+        for (int i = 0; i < 12; i++) {
+            waited += x.waitedOf(i);
+        }
+        checks.same("31: of a full tower", x.meanWaited(), waited / 12.0);
     }
 
     private static long digestOf(GoatTower x) {
